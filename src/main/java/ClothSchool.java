@@ -209,7 +209,7 @@ public final class ClothSchool {
     }
 
     public int slipped(int i) {
-        return within(i, holding.slips) ? holding.slipped[i] : NONE;
+        return within(i, holding.slips) && i < MOST_LAYERS ? holding.slipped[i] : NONE;
     }
 
     public int after(int ring, int sector) {
@@ -1070,7 +1070,7 @@ public final class ClothSchool {
         int size = 0;
 
         void add(int act, int low, int sector, int firstCell, int many, int high, int side) {
-            if (!within(size, MOST_LAYERS)) {
+            if (size < 0 || size >= MOST_LAYERS) {
                 return;
             }
             acts[size] = act;
@@ -1085,7 +1085,7 @@ public final class ClothSchool {
         }
 
         boolean has(int i) {
-            return within(i, size) && i < MOST_LAYERS;
+            return i >= 0 && i < size && i < MOST_LAYERS;
         }
 
         boolean tuckLast() {

@@ -271,6 +271,12 @@ public final class PromisesTest {
         fault("w((((((((1))))))))+((((((((1))))))))", 0);
         fault("w1*((1)+(((((((((", -4015);
         fault("p((((((((1)))))))).((((((((1))))))))", 0);
+        fault("p(((((((((", -4009);
+        fault("p1.(((((((((", -4011);
+        fault("x=((((((((1))))))))", 0);
+        fault("x=(((((((((", -4010);
+        fault("[((((((((1)))))))):t]", 0);
+        fault("[(((((((((", -4009);
         String forty = "t;".repeat(40);
         fault(forty.substring(0, 79), 0);
         fault(forty + "t", -5080);
@@ -406,6 +412,7 @@ public final class PromisesTest {
         Due.is("8: 32 bits", 1, draped("x=256*256*256*128;w(x+x)+1", 0, 0).look(2));
         Due.is("8: 32 bits", 1, draped("x=1;[31:x=x*2];y=x/(0-1);w1+y-x", 0, 0).look(2));
         Due.is("8: a drape's names are its own", 0, secondDrape("wx").look(2));
+        Due.is("8: a drape's names are its own", 0, secondDrape("wy").look(2));
     }
 
     private static int cellsLeft(String text, int z) {
@@ -415,7 +422,7 @@ public final class PromisesTest {
     }
 
     private static ClothSchool secondDrape(String text) {
-        ClothSchool x = draped("x=3", 0, 0);
+        ClothSchool x = draped("x=3;y=3", 0, 0);
         drape(x, text, 0, 0, 0);
         return x;
     }
@@ -667,6 +674,12 @@ public final class PromisesTest {
         Due.is("16: two upon it hold 2", 0, Due.moves(x, 2));
         drape(x, "p1.1;p1.1", 0, 0, 0);
         Due.is("16: not when they slipped", 2, Due.moves(x, 2));
+        drape(x, "w1;w1;w1", 0, 0, 0);
+        Due.is("16: acts of a layer each", 3, Due.moves(x, 2));
+        Due.is("17: the first laid", 0, x.slipped(2));
+        drape(x, "w1;t;w1;t;r;w1", 0, 0, 0);
+        Due.is("16: none slips from the first", 1, Due.moves(x, 2));
+        Due.is("18: the first laid", 0, x.after(0, 0));
     }
 
     private static void after() {
@@ -907,6 +920,7 @@ public final class PromisesTest {
         Due.is("25: 4", NONE, x.count(4));
         Due.is("25: 9", NONE, x.count(9));
         Due.is("25: -1", NONE, x.count(-1));
+        Due.is("25: a width", 1, x.count(10));
         Due.is("25: a width", 1, x.count(18));
         Due.is("25: a width", 8, x.count(25));
         Due.is("25: no body", NONE, x.count(26));
@@ -915,6 +929,7 @@ public final class PromisesTest {
         for (int k = 0; k < 10; k++) {
             Due.is("25: cloth, " + k, want[k], x.count(110 + k));
         }
+        Due.is("25: LENGTH", 40, x.count(100));
         Due.is("25: no cloth", NONE, x.count(120));
         Due.is("25: no cloth", NONE, x.count(199));
         x.style(1);
