@@ -574,6 +574,8 @@ public final class PromisesTest {
         Due.is("13: nothing slipped", 10, x.strength(0));
         Due.is("13: own layers are not upon", 0, draped("w30", 0, 0).strength(0));
         Due.is("13: nor beside", 0, draped("w2;w1", 0, 0).strength(0));
+        Due.is("13: nor on the ring above", 0, draped("w1;r;u1;w1;w1", 0, 0).strength(0));
+        Due.is("13: nor on the ring below", 0, draped("u1;w1;r;d1;w1;w1", 0, 0).strength(1));
         Due.is("13: a pin of the last layer's act", 5, draped("w1;u1;t;d1;r;w2", 0, 0).strength(0));
     }
 
