@@ -6,6 +6,7 @@ public final class DrapeEdgesTest {
         numbersTold();
         begins();
         beginsAnew();
+        reckonsAnew();
         actsOfNothing();
         actNumbers();
         greatestWidth();
@@ -110,6 +111,18 @@ public final class DrapeEdgesTest {
             Due.is("8: three acts", 3, x.drape(1, 0, 0, 2));
             looks("the second", x, 38, 3, 2, 0, 0, 2, 1, 0, NONE, 0, 0, NONE);
         }
+    }
+
+    /** What a broken E left half reckoned is in no later one. */
+    private static void reckonsAnew() {
+        ClothSchool x = Schools.of(40, 1);
+        Due.style(x, "p9.1+2*(3+4*(5+6*(7+8*(9+1/0))))");
+        Due.style(x, "w((((1+1))))+(2-1)*(l/40)");
+        for (int i = 0; i < 60; i++) {
+            Due.is("8: breaks", -15, x.drape(0, 0, 0, 0));
+        }
+        Due.is("8: one act", 1, x.drape(1, 0, 0, 0));
+        Due.is("8: of three layers", 3, x.look(2));
     }
 
     /** Each w p u d s h that is done (with 0, too) is an ACT. */
@@ -340,6 +353,9 @@ public final class DrapeEdgesTest {
         broken("w11", 10, 1, 0);
         whole("w200;p100.1", 400, 2);
         broken("w200;p100.1;h1", 400, 1, 2);
+        whole("u7;s;w31", 40, 3);
+        broken("u7;s;w32", 40, 1, 2);
+        Due.is("11: cells 7 and 8 are used by s", 9, Schools.draped("u7;s;w1", 40).layer(0, 3));
         Due.is("8: nine cells wide", 1, Schools.answer("w2", 18, 1, 2));
         Due.is("8: nine cells wide", -11, Schools.answer("w2", 17, 1, 2));
         Due.is("8: twice the width of ring 7", 2, Schools.answer("u7;s", 23, 1, 1));
@@ -470,6 +486,11 @@ public final class DrapeEdgesTest {
             ClothSchool x = Schools.draped("u7;w1;[5:" + step + "];d8", 40);
             Due.is("12: two, the row, five times " + step, 2 + 1 + 5, x.look(11));
             Due.is("12: broken by d8", 2, x.look(10));
+        }
+        for (int ahead = 0; ahead < 36; ahead++) {
+            broken("r;".repeat(ahead) + "[2:w1;f];d1", 10, 2, ahead + 5);
+            broken("r;".repeat(ahead) + "[2:h0;w1];d1", 10, 2, ahead + 5);
+            broken("r;".repeat(ahead) + "[0:w1;f];d1", 10, 2, ahead + 1);
         }
         broken("[2:r;[3:f;x=1]];d1", 10, 2, 17);
         broken("d1", 10, 2, 0);

@@ -211,6 +211,12 @@ public final class FindingEdgesTest {
         Due.is("22: no h", NONE, solve("wz", 400, 400, 0));
         Due.is("22: h from z 2 on", 2, solve("[z/2:h1]", 400, 400, -1));
         Due.is("22: no h of a row not done", NONE, solve("[0:h1];wz", 400, 400, -1));
+        Due.is("22: h of z 0 is none of z 1", NONE, solve("[1-z:h0]", 400, 400, -1));
+        ClothSchool x = Schools.of(40, 1);
+        Due.style(x, "u1;h1;h9");
+        Due.style(x, "u1;w1");
+        Due.is("22: an h", 0, x.solve(0, 0, 0, 400, -1));
+        Due.is("22: the other style has none", NONE, x.solve(1, 0, 0, 400, -1));
         Due.is("22: as many as z", 3, solve("u3;[z:d1;h0];h0", 400, 400, 0));
     }
 
@@ -278,7 +284,7 @@ public final class FindingEdgesTest {
         String any = "?".repeat(64);
         ClothSchool x = null;
         for (int sign = 0; sign < 256; sign++) {
-            if (sign % 100 == 0) {
+            if (sign % 30 == 0) {
                 x = coloured(10, 1);
                 Due.is("23: all", 2628, read(x, 0, any));
             }
@@ -457,6 +463,13 @@ public final class FindingEdgesTest {
             ClothSchool x = coloured(length, 1);
             Due.is("23: half and half on " + length, true, read(x, 0, "66661111" + none.substring(8)) > 0);
             firstIs("w8;f;w4 takes 12 cells of " + length, x, length < 12 ? new int[] {8, 2, 8, 2} : new int[] {3, 8, 2});
+        }
+        for (int length = 31; length <= 33; length++) {
+            // w8 of the end alone behind three that take 24 cells (w8, p2.2) or 25 (h9 among them)
+            ClothSchool x = coloured(length, 4);
+            x.end(0, length - 24);
+            Due.is("23: four rounds on " + length, length < 32 ? 0 : length == 32 ? 8 : 20, read(x, 0, "5".repeat(32) + none.substring(32)));
+            firstIs("four rounds on " + length, x, length < 32 ? new int[0] : new int[] {3, 3, 3, 3});
         }
         String hanging = with(with(none, 0, '5'), 8, '1');
         for (int length = 10; length <= 12; length++) {

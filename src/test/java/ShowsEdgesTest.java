@@ -63,12 +63,12 @@ public final class ShowsEdgesTest {
 
     /** The END's COLOUR if it is one of the last cells of the END, else its row's; by a layer's first cell. */
     private static void endsAndCells() {
-        ClothSchool x = coloured("w8;u1;p1.3;u1;h0;d2;u5;h6", 60, 1);
-        int[] first = {0, 1, 2, 3, 4, 5, 6, 7, 9, 12};
+        ClothSchool x = null;
         for (int end = 0; end <= 60; end++) {
+            x = end % 40 == 0 ? coloured("w8;u1;p1.3;u1;h0;d2", 60, 1) : x;
             Due.is("5: end " + end, true, x.end(0, end));
             for (int i = 0; i < 8; i++) {
-                Due.is("9: cell " + i + " of 60 with an end of " + end, first[i] >= 60 - end ? 5 : 1, x.shows(0, i));
+                Due.is("9: cell " + i + " of 60 with an end of " + end, i >= 60 - end ? 5 : 1, x.shows(0, i));
             }
             Due.is("9: a pleat from cell 12 to 14, an end of " + end, 12 >= 60 - end ? 5 : 1, x.shows(1, 0));
         }
