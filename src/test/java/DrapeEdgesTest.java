@@ -22,6 +22,9 @@ public final class DrapeEdgesTest {
         shoulderOnlyAtTheTop();
         numberEdges();
         numbersFarOff();
+        wrapsRound();
+        fromTheLeft();
+        lettersOfNumbers();
         byNothing();
         layersFull();
         stepsFull();
@@ -431,6 +434,81 @@ public final class DrapeEdgesTest {
         whole("w256*256*256*256", 10, 1);
         Due.is("8: 2 to the 32nd and 3", 3, Schools.draped("w256*256*256*256+3", 10).look(2));
         Due.is("8: above the highest and back", 7, Schools.draped("x=256*256*256*128-1;w(x+8)-(x+1)", 10).look(2));
+    }
+
+    /** Lays 100 layers by w if the expression is so much, since what is told is taken from it with 32 bits. */
+    private static void reckoned(String expression, int want) {
+        String told = "(((" + (want >>> 24) + "*256+" + (want >> 16 & 255) + ")*256+" + (want >> 8 & 255) + ")*256+" + (want & 255) + ")";
+        ClothSchool x = Schools.of(400, 1);
+        Due.is("8: " + expression + " is reckoned", 4, Schools.drape(x, "u0;w1;d0;x=7;y=" + expression + ";w100+y-" + told, 0, 60));
+        Due.is("8: " + expression + " is " + want, 101, x.look(2));
+    }
+
+    /** All is reckoned with 32 bits, as the machine does. */
+    private static void wrapsRound() {
+        reckoned("256*256*256*128", Integer.MIN_VALUE);
+        reckoned("256*256*256*128-1", Integer.MAX_VALUE);
+        reckoned("256*256*256*127+256*256*256", Integer.MIN_VALUE);
+        reckoned("0-256*256*256*128", Integer.MIN_VALUE);
+        reckoned("256*256*256*128/(0-1)", Integer.MIN_VALUE);
+        reckoned("256*256*256*128*(0-1)", Integer.MIN_VALUE);
+        reckoned("(256*256*256*128-1)*2", -2);
+        reckoned("256*256*256*128+256*256*256*128", 0);
+        reckoned("256*256*256*256", 0);
+        reckoned("0-256*256*256*128-1", Integer.MAX_VALUE);
+        reckoned("256*256*256*128/2", Integer.MIN_VALUE / 2);
+        reckoned("999*999*999", 999 * 999 * 999);
+        reckoned("999*999*999*999", 999 * 999 * 999 * 999);
+        reckoned("999*999*999*999*999/999", 999 * 999 * 999 * 999 * 999 / 999);
+        reckoned("z*z*z*z*z*z", 60 * 60 * 60 * 60 * 60 * 60);
+    }
+
+    /** TERMS with + or - between two, FACTORS with * or / between two; from the left on. */
+    private static void fromTheLeft() {
+        reckoned("1-2-3", -4);
+        reckoned("1-2+3", 2);
+        reckoned("1-(2+3)", -4);
+        reckoned("8/4*2", 4);
+        reckoned("8*4/3", 10);
+        reckoned("8/3*4", 8);
+        reckoned("100/7/3", 4);
+        reckoned("100/(7/3)", 50);
+        reckoned("2+3*4-5", 9);
+        reckoned("(2+3)*(4-5)", -5);
+        reckoned("2*3+4*5-6/4", 25);
+        reckoned("7/2", 3);
+        reckoned("(0-7)/2", -3);
+        reckoned("7/(0-2)", -3);
+        reckoned("(0-7)/(0-2)", 3);
+        reckoned("0-7/2", -3);
+        reckoned("1/2*2", 0);
+        reckoned("0/5", 0);
+        reckoned("000", 0);
+        reckoned("007", 7);
+        reckoned("010", 10);
+        reckoned("999", 999);
+        reckoned("((((((((9))))))))", 9);
+    }
+
+    /** A letter: x y z the names, l cells that are left, g the WIDTH, k the SECTOR, i the RING. */
+    private static void lettersOfNumbers() {
+        reckoned("x", 7);
+        reckoned("y", 0);
+        reckoned("z", 60);
+        reckoned("l", 399);
+        reckoned("g", 1);
+        reckoned("k", 1);
+        reckoned("i", 0);
+        Due.is("8: l at first", 400, Schools.draped("p1.l/2", 400).look(2) * Schools.draped("p1.l/2", 400).layer(0, 4));
+        whole("w40;wl;pl.1;ul;dl;hl;[l:d1]", 40, 6);
+        whole("w39;ul;[l:d1]", 40, 2);
+        for (int k = 0; k < 8; k++) {
+            Due.is("8: k is " + k, k + 2 * k, Schools.draped("w" + k + ";r;u1;pk.1", 40).look(2));
+            Due.is("8: i is " + k, 2 * k, Schools.draped("u" + k + ";pi.1", 40).look(2));
+            Due.is("8: i of the lowest row is " + k / 2, 2 * (k / 2), Schools.draped("u" + k / 2 + ";pi.1", 40, 4, 0).look(2));
+        }
+        Due.is("8: the other way k is 7", 1 + 14, Schools.draped("r;w1;pk.1", 40).look(2));
+        Due.is("8: k goes round", 8, Schools.draped("w8;wk", 40).look(2));
     }
 
     /** 5 division by 0. */
