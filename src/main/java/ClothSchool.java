@@ -285,7 +285,7 @@ public final class ClothSchool {
     }
 
     public int wrote(int k) {
-        return within(k, picture.firstActs) ? picture.first[k] : NONE;
+        return within(k, picture.firstActs) && k < Picture.MOST_ACTS ? picture.first[k] : NONE;
     }
 
     public int count(int what) {
